@@ -403,10 +403,12 @@ public final class OrganWind {
     }
 
     private int lowestCipher(int stop) {
-        if (!isStop(stop) || organ.ciphering[stop] == 0) {
-            return NONE;
+        for (int key = 0; key < KEYS && isStop(stop); key++) {
+            if (isIn(organ.ciphering[stop], key)) {
+                return key;
+            }
         }
-        return Integer.numberOfTrailingZeros(organ.ciphering[stop]);
+        return NONE;
     }
 
     private boolean isHeard(int stops) {

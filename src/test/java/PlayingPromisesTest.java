@@ -213,6 +213,8 @@ public final class PlayingPromisesTest {
         Check.due("all was got", x.stop(0, 4), 3000);
         Check.due("no pressure", x.tell(1), 0);
         Check.due("asks for 0", x.reason(0, 0), 5);
+        Check.due("which is not speaking", x.tell(7), 0);
+        Check.due("none speaks", x.mistuned(), -1000005);
         Check.due("stays empty", x.tick(200), 0);
     }
 

@@ -69,6 +69,15 @@ public final class QuestionPromisesTest {
         Check.due("pitch", x.pipe(0, 23, 4), -2);
         Check.due("just out of it", x.tune(0, 23), -1000003);
         Check.due("offset stays", x.pipe(0, 23, 1), 200);
+        x.layOut(4, 0, 27, 0);
+        x.set(8, 30);
+        x.layOut(2, 0, 39, 0);
+        Check.due("pitch, 106 lacking", x.pipe(0, 23, 4), 200 - 199);
+        Check.due("199", x.tune(0, 23), 200);
+        x.layOut(2, 0, 40, 0);
+        Check.due("pitch, 107 lacking", x.pipe(0, 23, 4), 199 - 201);
+        Check.due("201 is out of it", x.tune(0, 23), -1000003);
+        Check.due("offset stays", x.pipe(0, 23, 1), 199);
     }
 
     private static void tuneErrors() {

@@ -5,6 +5,7 @@ public final class StatePromisesTest {
     public static void main(String[] args) {
         undo();
         undoBringsAllBack();
+        undoBringsTheBellowsBack();
         whatIsRecorded();
         save();
         restore();
@@ -62,6 +63,35 @@ public final class StatePromisesTest {
         y.tick(3);
         Check.due("the stroke goes on", x.tell(9), y.tell(9));
         Check.due("strokes go on", x.strokes(1), y.strokes(1));
+    }
+
+    private static void undoBringsTheBellowsBack() {
+        OrganWind x = new OrganWind();
+        x.set(4, 3050);
+        x.set(6, 200);
+        x.tick(2);
+        Check.due("spilled", x.tell(5), 50);
+        x.set(6, 80);
+        x.set(7, 8);
+        x.tick(3);
+        Check.due("spilled more", x.tell(5), 150 + 10);
+        Check.due("made more", x.tell(3), 210);
+        x.undo();
+        Check.due("spilled before", x.tell(5), 50);
+        Check.due("left before", x.tell(9), 100);
+        Check.due("made before", x.tell(3), 100);
+        x.set(4, 6000);
+        Check.due("the stroke as it began", x.tick(1), 3100);
+        Check.due("and its last part", x.tick(1), 3150);
+        x.undo();
+        x.undo();
+        x.tick(2);
+        x.tick(1);
+        Check.due("feeder 1 is next", x.strokes(1), 1);
+        x.undo();
+        x.tick(1);
+        Check.due("feeder 1 is next again", x.strokes(1), 1);
+        Check.due("feeder 0 is not", x.strokes(0), 1);
     }
 
     private static void whatIsRecorded() {
@@ -195,13 +225,13 @@ public final class StatePromisesTest {
         for (int stop = 0; stop < 8; stop++) {
             x.draw(stop, true);
         }
-        for (int key = 1; key < 24; key += 5) {
+        for (int key = 0; key < 24; key += 5) {
             x.press(0, key, true);
         }
         x.cipher(5, 2, true);
         x.couple(true, true);
         x.tick(33);
-        x.tune(0, 1);
+        x.tune(0, 5);
         Check.due("checksum of many pipes", x.checksum(), mixAll(x, settings));
     }
 }

@@ -247,6 +247,16 @@ public final class TellingPromisesTest {
         x.press(0, 7, true);
         Check.due("no pressure left", x.chest(0, 0), 0);
         Check.due("asks for 0", x.reason(2, 6), 5);
+        x.draw(4, false);
+        x.press(0, 23, true);
+        x.layOut(2, 0, 1, 0);
+        Check.due("asks for 4", x.pipe(2, 7, 2), 4);
+        x.set(1, 0);
+        Check.due("asks for 1", x.pipe(2, 23, 2), 1);
+        Check.due("which is enough", x.reason(2, 23), 0);
+        Check.due("all speak", x.tell(7), 4);
+        x.set(1, 100);
+        x.draw(4, true);
         x.layOut(2, 0, 8, 1);
         Check.due("pressure comes first", x.reason(2, 6), 3);
     }

@@ -8,6 +8,7 @@ public final class TextPromisesTest {
         faultsOfForm();
         faultsOfNumbers();
         textsThatEndTooEarly();
+        clearedTextIsGone();
         play();
         playLongest();
         playErrors();
@@ -137,6 +138,19 @@ public final class TextPromisesTest {
         fault("t20", 3);
         fault("t200", 4);
         fault("d0r0t7", 6);
+    }
+
+    private static void clearedTextIsGone() {
+        OrganWind x = new OrganWind();
+        write(x, "p012;");
+        write(x, "p");
+        Check.due("manual is gone", x.faultPosition(), 1);
+        write(x, "p0");
+        Check.due("key is gone", x.faultPosition(), 2);
+        write(x, "p01");
+        Check.due("digit is gone", x.faultPosition(), 3);
+        write(x, "p012");
+        Check.due("semicolon is gone", x.faultPosition(), 4);
     }
 
     private static void play() {
