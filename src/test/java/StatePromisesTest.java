@@ -166,53 +166,17 @@ public final class StatePromisesTest {
         Check.due("the history is no state", x.undo(), 1);
     }
 
-    private static long mixAll(OrganWind x, int[] settings) {
-        long h = 151;
-        for (int stop = 0; stop < 8; stop++) {
-            for (int what = 0; what <= 4; what++) {
-                h = 31 * h + x.stop(stop, what);
-            }
-        }
-        for (int value : settings) {
-            h = 31 * h + value;
-        }
-        for (int what = 0; what <= 9; what++) {
-            h = 31 * h + x.tell(what);
-        }
-        for (int manual = 0; manual < 2; manual++) {
-            for (int what = 0; what <= 2; what++) {
-                h = 31 * h + x.chest(manual, what);
-            }
-        }
-        h = 31 * h + x.strokes(0);
-        h = 31 * h + x.strokes(1);
-        for (int stop = 0; stop < 8; stop++) {
-            for (int key = 0; key < 24; key++) {
-                if (x.pipe(stop, key, 2) != -1000005) {
-                    h = 31 * h + 100 * stop + key;
-                    for (int what = 0; what <= 4; what++) {
-                        h = 31 * h + x.pipe(stop, key, what);
-                    }
-                    h = 31 * h + x.reason(stop, key);
-                }
-            }
-        }
-        h = 31 * h + x.mistuned();
-        h = 31 * h + x.search(0);
-        return 31 * h + x.search(1);
-    }
-
     private static void checksumOfAll() {
         int[] settings = {80, 10, 10, 500, 6000, 4000, 120, 4, 8};
         OrganWind x = new OrganWind();
-        Check.due("checksum of a new one", x.checksum(), mixAll(x, settings));
+        Check.due("checksum of a new one", x.checksum(), Checksum.of(x, settings));
         OrganWind y = new OrganWind();
         y.draw(0, true);
         y.draw(7, true);
         y.press(0, 23, true);
         y.tick(5);
-        Check.due("checksum", y.checksum(), mixAll(y, settings));
-        Check.due("checksum again", y.checksum(), mixAll(y, settings));
+        Check.due("checksum", y.checksum(), Checksum.of(y, settings));
+        Check.due("checksum again", y.checksum(), Checksum.of(y, settings));
         Check.due("checksum is not recorded", y.undo(), 3);
     }
 
@@ -232,6 +196,6 @@ public final class StatePromisesTest {
         x.couple(true, true);
         x.tick(33);
         x.tune(0, 5);
-        Check.due("checksum of many pipes", x.checksum(), mixAll(x, settings));
+        Check.due("checksum of many pipes", x.checksum(), Checksum.of(x, settings));
     }
 }
