@@ -135,6 +135,28 @@ public final class BoundaryPromises19To27Test {
         Check.due("0 and 20", x.pipe(0, 22, 4) - x.pipe(0, 23, 4), 20);
         Check.due("the greater one comes first by its key", x.mistuned(), 20);
         Check.due("nothing is recorded", x.undo(), 4);
+        OrganWind y = new OrganWind();
+        y.draw(0, true);
+        y.draw(7, true);
+        y.press(0, 0, true);
+        y.press(0, 12, true);
+        y.press(0, 23, true);
+        y.press(1, 12, true);
+        y.set(1, 100);
+        y.tune(0, 0);
+        Check.due("the first key of the first stop: 0 and -10", y.mistuned(), 10);
+        y.tune(0, 12);
+        y.tune(0, 23);
+        Check.due("0 and -1", y.mistuned(), 1);
+        y.set(2, 100);
+        Check.due("the last stop: 0 and -10", y.mistuned(), 10);
+        y.layOut(0, 0, 4, 100);
+        Check.due("alone", y.mistuned(), 0);
+        y.press(1, 23, true);
+        y.press(1, 0, true);
+        y.set(2, 10);
+        y.tune(7, 23);
+        Check.due("its last key: 0 and -3", y.mistuned(), 3);
     }
 
     private static void search() {
@@ -221,6 +243,13 @@ public final class BoundaryPromises19To27Test {
         y.cipher(7, 23, true);
         Check.due("a later stop robs none, and its own pipes are not counted", y.robbed(7), 0);
         Check.due("nothing is changed", y.stop(7, 3), 0);
+        OrganWind z = Organs.heardOnlyWithAll();
+        z.draw(0, true);
+        z.draw(1, true);
+        Check.due("stop 1 does not speak now", z.reason(1, 2), 4);
+        Check.due("that it would speak with stop 4 is not counted", z.robbed(4), 0);
+        z.draw(4, true);
+        Check.due("though it does", z.reason(1, 2), 0);
     }
 
     private static void robbedReturns() {
@@ -313,6 +342,10 @@ public final class BoundaryPromises19To27Test {
         Check.due("the latest", x.tell(1), 101);
         x.undo();
         Check.due("the one ahead of it", x.tell(1), 80);
+        OrganWind rich = Organs.rich();
+        rich.restore(0);
+        rich.undo();
+        sameNow(rich, Organs.rich());
         x.set(0, 103);
         x.undo();
         Check.due("what was taken out is gone", x.undo(), NOT_POSSIBLE);
@@ -369,21 +402,22 @@ public final class BoundaryPromises19To27Test {
         Check.due("2", x.restore(2), BAD_INDEX);
         Check.sentence("Promise 26", "Makes the state as it was saved.");
         OrganWind rich = Organs.rich();
-        long saved = rich.checksum();
         rich.save(1);
-        rich.tick(50);
-        rich.layOut(0, 1, 33, 3);
-        rich.couple(false, false);
+        Organs.change(rich);
+        long changed = rich.checksum();
         rich.restore(1);
-        Check.due("checksum", rich.checksum(), saved);
+        sameNow(rich, Organs.rich());
         Check.sentence("Promise 26", "The slot keeps it.");
-        rich.set(0, 200);
-        rich.tick(9);
+        rich = Organs.rich();
+        rich.save(1);
         rich.restore(1);
-        Check.due("checksum", rich.checksum(), saved);
+        Organs.change(rich);
+        Check.due("all is changed again", rich.checksum(), changed);
+        rich.restore(1);
         rich.undo();
+        Check.due("all is changed still", rich.checksum(), changed);
         rich.restore(1);
-        Check.due("checksum, after undo", rich.checksum(), saved);
+        sameNow(rich, Organs.rich());
         Check.sentence("Promise 26", "Recorded.");
         OrganWind y = new OrganWind();
         y.save(0);
@@ -404,6 +438,23 @@ public final class BoundaryPromises19To27Test {
         Check.due("time", z.tell(2), 7);
         for (int bad : OUTSIDE) {
             Check.due("bad", z.restore(bad), BAD_INDEX);
+        }
+    }
+
+    /** That two organs are alike, their text, history and slots aside. */
+    private static void sameNow(OrganWind x, OrganWind y) {
+        Check.due("checksum", x.checksum(), y.checksum());
+        for (int pipe = 0; pipe < 192; pipe++) {
+            Check.due("offset " + pipe, x.pipe(pipe / 24, pipe % 24, 1), y.pipe(pipe / 24, pipe % 24, 1));
+        }
+        for (int ticks = 1; ticks < 9; ticks++) {
+            Check.due("ticks", x.tick(1), y.tick(1));
+            Check.due("strokes of 0", x.strokes(0), y.strokes(0));
+            Check.due("left of the stroke", x.tell(9), y.tell(9));
+        }
+        Check.due("couplers", x.couple(true, true), y.couple(true, true));
+        for (int i = 0; i < 2; i++) {
+            Check.due("keys pressed", x.press(i, 0, true), y.press(i, 0, true));
         }
     }
 

@@ -37,6 +37,11 @@ public final class BoundarySearchTest {
         Check.due("asks for 10 * 10 / 20", x.search(0), 7);
         x.layOut(7, 0, 15, 0);
         Check.due("asks for 20 * 0 / 20", x.search(0), NONE);
+        OrganWind drawn = new OrganWind();
+        drawn.cipher(7, 0, true);
+        drawn.draw(7, true);
+        Check.due("stop 7 sounds", drawn.tell(7), 1);
+        Check.due("but in no test of other stops", drawn.search(0), 7);
         OrganWind empty = Organs.holding(0);
         empty.cipher(3, 3, true);
         Check.due("V is as it is", empty.search(0), NONE);

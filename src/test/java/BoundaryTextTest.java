@@ -79,6 +79,11 @@ public final class BoundaryTextTest {
         Check.due("stop 0 is drawn", x.stop(0, 3), 1);
         Check.due("stop 7 is retired", x.stop(7, 3), 0);
         fault("d0;", 2);
+        Organs.write(x, "p05;d0p15;r1");
+        x.play();
+        Check.due("a key stays pressed", x.chest(0, 2), 1 << 5);
+        Check.due("and the other one", x.chest(1, 2), 1 << 5);
+        Check.due("no tick passes", x.tell(2), 0);
     }
 
     private static void pressedAndReleased() {
@@ -97,6 +102,8 @@ public final class BoundaryTextTest {
         Check.due("six acts", x.play(), 6);
         Check.due("keys of 0", x.chest(0, 2), 1 << 23);
         Check.due("keys of 1", x.chest(1, 2), 1);
+        Check.due("no stop is drawn", x.draw(5, true), 1);
+        Check.due("no tick passes", x.tell(2), 0);
     }
 
     private static void ticks() {
@@ -113,6 +120,8 @@ public final class BoundaryTextTest {
         Organs.write(x, "t200;t9;");
         x.play();
         Check.due("209 more", x.tell(2), 210);
+        Check.due("no key is pressed", x.chest(0, 2) + x.chest(1, 2), 0);
+        Check.due("no stop is drawn", x.draw(5, true), 1);
     }
 
     private static void numbers() {

@@ -129,6 +129,31 @@ final class Organs {
         return x;
     }
 
+    /** Changes everything of the state of a rich organ, its text, history and slots aside. */
+    static void change(OrganWind x) {
+        x.tick(5);
+        x.set(0, 150);
+        for (int stop = 0; stop < 8; stop++) {
+            x.draw(stop, true);
+        }
+        x.cipher(7, 7, false);
+        x.cipher(0, 7, true);
+        x.press(0, 11, false);
+        x.press(0, 9, true);
+        x.press(1, 2, false);
+        x.press(1, 1, true);
+        x.tick(3);
+        for (int stop = 0; stop < 8; stop++) {
+            x.tune(stop, 5);
+            x.layOut(stop, stop < 3 ? 0 : 1, 30 + stop, stop);
+        }
+        for (int setting = 1; setting < 9; setting++) {
+            x.set(setting, new int[] {0, 3, 4, 999, 1111, 2222, 33, 3, 5}[setting]);
+        }
+        x.couple(false, false);
+        x.tick(9);
+    }
+
     /** All that can be asked of an organ, and what its history, slots and text bring; this uses it up. */
     static List<Long> allOf(OrganWind x) {
         List<Long> all = new ArrayList<>();
