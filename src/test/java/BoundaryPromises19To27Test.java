@@ -1,3 +1,5 @@
+import java.util.function.Supplier;
+
 /** The sentences of promises 19 to 27 at their boundaries. */
 public final class BoundaryPromises19To27Test {
     private static final int BAD_INDEX = -1000001;
@@ -464,28 +466,49 @@ public final class BoundaryPromises19To27Test {
                 + " settings 0 to 8; tell() of 0 to 9; for both manuals chest() of 0 to 2; strokes() of 0 and 1; for each"
                 + " stop, and each key of it, whose pipe is open: 100 * stop + key, and pipe() of 0 to 4 and reason();"
                 + " mistuned(); search(0), search(1).");
-        OrganWind x = new OrganWind();
-        Check.due("of a new one", x.checksum(), Checksum.of(x, 80, 10, 10, 500, 6000, 4000, 120, 4, 8));
-        Organs.sound(x, 0, 0, 40);
-        Organs.sound(x, 7, 1, 39);
-        x.cipher(7, 0, true);
-        Check.due("of the first and the last pipe",
-                x.checksum(), Checksum.of(x, 80, 10, 10, 500, 6000, 4000, 120, 4, 8));
-        int[] least = {20, 0, 0, 100, 1000, 0, 10, 1, 0};
+        int[] first = {80, 10, 10, 500, 6000, 4000, 120, 4, 8};
         int[] most = {200, 100, 100, 2000, 20000, 20000, 500, 8, 32};
+        int[] least = {20, 0, 0, 100, 1000, 0, 10, 1, 0};
+        checksumIs("of a new one", OrganWind::new, first);
+        checksumIs("of the first and the last pipe", () -> firstAndLastPipe(first), first);
+        checksumIs("with the most of all settings", () -> firstAndLastPipe(most), most);
+        checksumIs("with the least of all settings", () -> firstAndLastPipe(least), least);
+    }
+
+    private static void checksumIs(String told, Supplier<OrganWind> organ, int[] settings) {
+        Check.due(told, organ.get().checksum(), Checksum.of(organ, settings));
+    }
+
+    private static OrganWind firstAndLastPipe(int[] settings) {
+        OrganWind x = new OrganWind();
+        x.layOut(0, 0, 40, 0);
+        x.draw(0, true);
+        x.cipher(0, 0, true);
+        x.layOut(7, 1, 39, 0);
+        x.draw(7, true);
+        x.cipher(7, 23, true);
+        x.tick(2);
         for (int setting = 0; setting < 9; setting++) {
-            x.set(setting, most[setting]);
+            x.set(setting, settings[setting]);
         }
         x.tick(6);
-        Check.due("with the most of all settings", x.checksum(), Checksum.of(x, most));
-        for (int setting = 0; setting < 9; setting++) {
-            x.set(setting, least[setting]);
-        }
-        Check.due("with the least of all settings", x.checksum(), Checksum.of(x, least));
+        return x;
     }
 
     private static void checksumAtEdges() {
         Check.sentence("Promise 27", "Returns the checksum.");
+        int[] settings = {80, 0, 100, 500, 6000, 4000, 120, 4, 32};
+        checksumIs("of all pipes, half of them without pressure", () -> allPipes(), settings);
+        checksumIs("of all pipes, with little left", () -> allPipesAfterTicks(), settings);
+        int[] scarceSettings = {200, 0, 0, 100, 6000, 0, 120, 4, 8};
+        checksumIs("of pipes that get too little", () -> tooLittle(), scarceSettings);
+        OrganWind x = allPipesAfterTicks();
+        Check.due("it changes nothing", x.checksum(), x.checksum());
+        Check.due("nor is it recorded", x.undo(), 4);
+        valueByValue();
+    }
+
+    private static OrganWind allPipes() {
         OrganWind x = new OrganWind();
         for (int key = 0; key < 24; key++) {
             x.press(0, key, true);
@@ -497,12 +520,25 @@ public final class BoundaryPromises19To27Test {
         x.set(1, 0);
         x.set(2, 100);
         x.set(8, 32);
-        int[] settings = {80, 0, 100, 500, 6000, 4000, 120, 4, 32};
-        Check.due("of all pipes, half of them without pressure", x.checksum(), Checksum.of(x, settings));
+        return x;
+    }
+
+    private static OrganWind tooLittle() {
+        OrganWind x = Organs.scarce();
+        for (int stop = 0; stop < 4; stop++) {
+            Organs.sound(x, stop, 0, 40);
+        }
+        Check.due("the third gets 2", x.pipe(2, 23, 3), 2);
+        return x;
+    }
+
+    private static OrganWind allPipesAfterTicks() {
+        OrganWind x = allPipes();
         x.tick(200);
-        Check.due("of pipes that get too little", x.checksum(), Checksum.of(x, settings));
-        Check.due("it changes nothing", x.checksum(), Checksum.of(x, settings));
-        Check.due("nor is it recorded", x.undo(), 4);
+        return x;
+    }
+
+    private static void valueByValue() {
         OrganWind y = new OrganWind();
         long h = 151;
         int[] stops = {0, 4, 20, 1, 6, 25, 0, 8, 30, 1, 10, 35, 0, 12, 40, 1, 14, 45, 0, 16, 50, 1, 18, 55};

@@ -216,7 +216,7 @@ public final class BoundaryTickTest {
         Check.due("200 more", x.tell(2), 201);
     }
 
-    /** 80 letters, 421 texts of 3200 ticks each, five calls ahead of them and six behind them. */
+    /** 80 letters and five other calls, 419 texts of 3200 ticks each, and eight more calls. */
     private static void calls512() {
         Check.sentence("What it is", "An object is used for at most 512 calls after it has been made");
         OrganWind x = new OrganWind();
@@ -228,10 +228,10 @@ public final class BoundaryTickTest {
         x.set(1, 0);
         x.draw(6, true);
         x.cipher(6, 23, true);
-        for (int i = 0; i < 421; i++) {
+        for (int i = 0; i < 419; i++) {
             x.play();
         }
-        int ticks = 421 * 3200;
+        int ticks = 419 * 3200;
         Check.due("time", x.tell(2), ticks);
         Check.due("wind got", x.tell(4), 16 * ticks);
         Check.due("of the stop", x.stop(6, 4), 16 * ticks);

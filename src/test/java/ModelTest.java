@@ -2,6 +2,7 @@ import java.util.Random;
 
 /** Long runs of calls, each answer held against that of the plain organ. */
 public final class ModelTest {
+    private static final int MOST_CALLS = 512;
     private static final String[] GOOD_PHRASES = {
         "d0", "d1", "d2", "d3", "d4", "d6", "d7", "r1", "r5", "p00;", "p03;", "p012;", "p123;", "p13;", "l00;", "l13;",
         "t1;", "t3;", "t9;", "t10;", "t99;", "t100;", "t200;"};
@@ -17,6 +18,7 @@ public final class ModelTest {
     private final Kind kindOfRun;
     private final StringBuilder told = new StringBuilder();
     private int unsaid = 0;
+    private int calls = 0;
 
     /** ANY: all values alike; LIVELY: most pipes speak; SCARCE: there is little wind. */
     private enum Kind { ANY, LIVELY, SCARCE }
@@ -37,9 +39,9 @@ public final class ModelTest {
     }
 
     private boolean run(int run) {
-        for (int call = 0; call < 512; call++) {
+        while (calls < MOST_CALLS) {
             if (!oneCall()) {
-                System.out.println("run " + run + ", call " + call + ":" + told);
+                System.out.println("run " + run + ", call " + calls + ":" + told);
                 return false;
             }
         }
@@ -85,6 +87,7 @@ public final class ModelTest {
     }
 
     private boolean same(String call, long got, long want) {
+        calls++;
         if (told.length() > 4000) {
             told.setLength(0);
             told.append("\n..");
@@ -154,7 +157,7 @@ public final class ModelTest {
         }
         if (kind < 49) {
             boolean asDue = true;
-            for (int times = random.nextInt(7); times >= 0 && asDue; times--) {
+            for (int times = random.nextInt(7); times >= 0 && asDue && calls < MOST_CALLS; times--) {
                 asDue = same("undo", made.undo(), plain.undo());
             }
             return asDue;

@@ -21,8 +21,8 @@ public final class OrganPromisesTest {
     }
 
     private static void newStops() {
-        OrganWind x = new OrganWind();
         for (int s = 0; s < 8; s++) {
+            OrganWind x = new OrganWind();
             Check.due("new stop manual", x.stop(s, 0), s % 2);
             Check.due("new stop demand", x.stop(s, 1), 4 + 2 * s);
             Check.due("new stop least", x.stop(s, 2), 20 + 5 * s);

@@ -1,6 +1,7 @@
 /** Promises 24 to 27: undo, save, restore, checksum. */
 public final class StatePromisesTest {
     private static final int[] OUTSIDE = {Integer.MIN_VALUE, -1000000, -1, 2, Integer.MAX_VALUE};
+    private static final int[] OTHER_SETTINGS = {120, 20, 5, 700, 5000, 4500, 90, 5, 30};
 
     public static void main(String[] args) {
         undo();
@@ -168,23 +169,31 @@ public final class StatePromisesTest {
 
     private static void checksumOfAll() {
         int[] settings = {80, 10, 10, 500, 6000, 4000, 120, 4, 8};
-        OrganWind x = new OrganWind();
-        Check.due("checksum of a new one", x.checksum(), Checksum.of(x, settings));
-        OrganWind y = new OrganWind();
-        y.draw(0, true);
-        y.draw(7, true);
-        y.press(0, 23, true);
-        y.tick(5);
-        Check.due("checksum", y.checksum(), Checksum.of(y, settings));
-        Check.due("checksum again", y.checksum(), Checksum.of(y, settings));
+        Check.due("checksum of a new one", new OrganWind().checksum(), Checksum.of(OrganWind::new, settings));
+        OrganWind y = twoStops();
+        Check.due("checksum", y.checksum(), Checksum.of(StatePromisesTest::twoStops, settings));
+        Check.due("checksum again", y.checksum(), Checksum.of(StatePromisesTest::twoStops, settings));
         Check.due("checksum is not recorded", y.undo(), 3);
     }
 
+    private static OrganWind twoStops() {
+        OrganWind x = new OrganWind();
+        x.draw(0, true);
+        x.draw(7, true);
+        x.press(0, 23, true);
+        x.tick(5);
+        return x;
+    }
+
     private static void checksumWithOverflow() {
-        int[] settings = {120, 20, 5, 700, 5000, 4500, 90, 5, 30};
+        Check.due("checksum of many pipes", manyPipes().checksum(),
+                Checksum.of(StatePromisesTest::manyPipes, OTHER_SETTINGS));
+    }
+
+    private static OrganWind manyPipes() {
         OrganWind x = new OrganWind();
         for (int i = 0; i < 9; i++) {
-            x.set(i, settings[i]);
+            x.set(i, OTHER_SETTINGS[i]);
         }
         for (int stop = 0; stop < 8; stop++) {
             x.draw(stop, true);
@@ -196,6 +205,6 @@ public final class StatePromisesTest {
         x.couple(true, true);
         x.tick(33);
         x.tune(0, 5);
-        Check.due("checksum of many pipes", x.checksum(), Checksum.of(x, settings));
+        return x;
     }
 }
