@@ -22,6 +22,8 @@ public final class OrganWind {
     private static final int MOST_TICKS = 200;
     private static final int MOST_FORECAST = 1000;
     private static final int FIRST_VOLUME = 3000;
+    // No volume comes up to it, and no pitch, also not below 0.
+    private static final int ABOVE_ALL = 1000000;
 
     private static final int SETTINGS = 9;
     private static final int WEIGHT = 0;
@@ -350,8 +352,8 @@ public final class OrganWind {
     }
 
     private int greatestDifference() {
-        int lowest = Integer.MAX_VALUE;
-        int highest = Integer.MIN_VALUE;
+        int lowest = ABOVE_ALL;
+        int highest = -ABOVE_ALL;
         for (int stop = 0; stop < STOPS; stop++) {
             for (int key = 0; key < KEYS; key++) {
                 if (isIn(wind.speaking[stop], key)) {
@@ -531,7 +533,7 @@ public final class OrganWind {
         // No tick opens or shuts a pipe, and few change the pressure: what follows from them is kept.
         trial.openPipes(state, state.drawn, true);
         int known = NONE;
-        int lowest = Integer.MAX_VALUE;
+        int lowest = ABOVE_ALL;
         for (int i = 0; i < ticks; i++) {
             state.pump();
             int pressure = state.reservoirPressure();

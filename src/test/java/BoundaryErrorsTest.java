@@ -1,4 +1,3 @@
-import java.util.List;
 import java.util.function.Supplier;
 import java.util.function.ToIntFunction;
 
@@ -140,12 +139,7 @@ public final class BoundaryErrorsTest {
     private static void refused(String call, int error, Supplier<OrganWind> organ, ToIntFunction<OrganWind> refusal) {
         OrganWind x = organ.get();
         Check.due(call, refusal.applyAsInt(x), error);
-        List<Long> got = Organs.allOf(x);
-        List<Long> want = Organs.allOf(organ.get());
-        Check.due("values told after " + call, got.size(), want.size());
-        for (int i = 0; i < Math.min(got.size(), want.size()); i++) {
-            Check.due("value " + i + " after " + call, got.get(i), want.get(i));
-        }
+        Organs.compare(call, x, organ.get());
     }
 
     private static void refusedIndices() {

@@ -5,12 +5,14 @@ import java.lang.reflect.Method;
 import java.lang.reflect.Modifier;
 import java.nio.file.Files;
 import java.nio.file.Path;
+import java.util.ArrayList;
+import java.util.List;
 import java.util.Set;
 import java.util.TreeSet;
 import java.util.regex.Matcher;
 import java.util.regex.Pattern;
 
-/** The public face, and those rules of LANGUAGE.md that can be read off the class and its source. */
+/** The public face, line by line, and those rules of LANGUAGE.md that can be read off the class and its source. */
 public final class FaceTest {
     private static final Set<String> METHODS = Set.of(
             "int layOut(int,int,int,int)", "int stop(int,int)", "int set(int,int)", "int cipher(int,int,boolean)",
@@ -21,13 +23,53 @@ public final class FaceTest {
             "int undo()", "int save(int)", "int restore(int)", "long checksum()");
     private static final Set<String> CONSTANTS = Set.of(
             "BAD_INDEX", "BAD_VALUE", "NOT_POSSIBLE", "FULL", "NONE");
+    /** What the class uses of the library; rule 4 lists it. */
+    private static final Set<String> LIBRARY = Set.of(
+            "Integer.bitCount", "Math.floorDiv", "Math.max", "Math.min", "System.arraycopy");
 
     public static void main(String[] args) throws IOException {
+        String source = Files.readString(Path.of("src/main/java/OrganWind.java"));
+        String bare = source.replaceAll("(?s)/\\*.*?\\*/", "").replaceAll("//[^\n]*", "");
+        linesOfFace(bare);
+        signatures();
         constants();
         members();
         nestedClasses();
-        source();
+        signs(source);
+        words(bare);
+        library(bare);
+        methodLengths(bare);
         Check.end();
+    }
+
+    /** That the source has the public lines of the document's face, these alone, in their order. */
+    private static void linesOfFace(String bare) {
+        List<String> due = new ArrayList<>(Doc.face());
+        Check.due("closing line of the face", due.size() > 0 && due.remove(due.size() - 1).equals("}") ? 1 : 0, 1);
+        Check.due("lines of the face", due.size(), 1 + 5 + 1 + 26);
+        List<String> got = new ArrayList<>();
+        for (String line : bare.split("\n")) {
+            if (line.contains("public ")) {
+                got.add(line.replaceAll("\\) \\{$", ");"));
+            }
+        }
+        Check.due("public lines of the source", got.size(), due.size());
+        for (int i = 0; i < Math.min(got.size(), due.size()); i++) {
+            Check.due(got.get(i) + " is " + due.get(i), got.get(i).equals(due.get(i)) ? 1 : 0, 1);
+        }
+    }
+
+    /** That the promises' signatures are those of the face, a promise each. */
+    private static void signatures() {
+        List<String> callable = new ArrayList<>();
+        for (String line : Doc.face()) {
+            if (line.endsWith(");")) {
+                callable.add(line.trim().replaceAll("^public |;$", ""));
+            }
+        }
+        List<String> promised = new ArrayList<>(Doc.signatures().values());
+        Check.due("signatures are those of the face", promised.equals(callable) ? 1 : 0, 1);
+        Check.due("signatures", promised.size(), 27);
     }
 
     private static void constants() {
@@ -109,22 +151,36 @@ public final class FaceTest {
         }
     }
 
-    private static void source() throws IOException {
-        String source = Files.readString(Path.of("src/main/java/OrganWind.java"));
+    private static void signs(String source) {
         for (char c : source.toCharArray()) {
             if (c > 126) {
                 Check.due("sign " + (int) c, 1, 0);
             }
         }
-        String bare = source.replaceAll("(?s)/\\*.*?\\*/", "").replaceAll("//[^\n]*", "");
+    }
+
+    private static void words(String bare) {
         String[] forbidden = {"\\b(throws?|try|catch|finally|synchronized|assert|import|package|instanceof)\\b",
             "->", "::", "\\b(equals|hashCode|toString)\\b", "\\b\\w+Exact\\b", "\\bstatic\\s*\\{",
-            "\\b(System\\.(?!arraycopy)\\w+|Thread|Random|Object)\\b", "\""};
+            "\\b(Thread|Random|Object)\\b", "\""};
         for (String pattern : forbidden) {
             Matcher m = Pattern.compile(pattern).matcher(bare);
             Check.due("found " + pattern, m.find() ? 1 : 0, 0);
         }
-        methodLengths(bare);
+    }
+
+    /** That every name of a class is one of this file, or stands in rule 4 with just this member. */
+    private static void library(String bare) {
+        Set<String> used = new TreeSet<>();
+        Matcher m = Pattern.compile("\\b[A-Z]\\w*[a-z]\\w*(\\.\\w+)?").matcher(bare);
+        while (m.find()) {
+            used.add(m.group());
+        }
+        used.remove("OrganWind");
+        for (Class<?> own : OrganWind.class.getDeclaredClasses()) {
+            used.remove(own.getSimpleName());
+        }
+        same("library", used, LIBRARY);
     }
 
     private static void methodLengths(String bare) {

@@ -10,7 +10,7 @@ import java.util.regex.Matcher;
 import java.util.regex.Pattern;
 import java.util.stream.Stream;
 
-/** That no sentence of the document is left without a test that names it, but for those that name no boundary. */
+/** That no sentence of the document is left without a test that names it, but for those that ask for nothing. */
 public final class SentencesTest {
     private static final Path TESTS = Path.of("src/test/java");
     private static final String LITERALS = "((?:\"[^\"]*\"[\\s+]*)+)";
@@ -18,15 +18,13 @@ public final class SentencesTest {
             Pattern.compile("Check\\.sentence\\((\\w+|\"[^\"]*\"),\\s*(?:" + LITERALS + "|(\\w+))\\)");
     private static final Pattern CONSTANT = Pattern.compile("String (\\w+) = " + LITERALS + ";");
     /** What tells the reader how to read, and what is left free. */
-    private static final String[] WITHOUT_BOUNDARY = {
-        "The wind of an organ. Stops are drawn and keys are pressed on two manuals, with couplers; pipes that are open"
-            + " take wind from their chest and rob each other of pressure; a pipe speaks only with enough of it, and its"
-            + " pitch goes with it. A reservoir is filled by the strokes of two feeders. Pipes that cipher sound without"
-            + " a key and are found by tests; pipes are tuned; music is read from texts; it is told why a pipe does not"
-            + " speak; all wind is accounted for.",
-        "; what later calls answer is free.",
+    private static final String[] ASKING_FOR_NOTHING = {
+        "---- the organ", "---- playing", "---- text", "---- what there is", "---- tuning", "---- questions", "---- states",
         "The constants:",
-        "The constructor and the methods follow, a promise each: the signature, then what it does."};
+        "The constructor and the methods follow, a promise each: the signature, then what it does.",
+        "How the state is held inside the object is free, as are the speed of each call, the text of toString and the"
+            + " behaviour of equals and hashCode.",
+        "Use of one object from several threads at once is not promised to be safe."};
 
     public static void main(String[] args) throws IOException {
         Map<String, List<String>> named = new LinkedHashMap<>();
@@ -35,7 +33,8 @@ public final class SentencesTest {
                 readNamings(Files.readString(file), named);
             }
         }
-        Check.due("paragraphs and promises", Doc.parts().size(), 1 + 11 + 27);
+        Check.due("paragraphs and promises", Doc.parts().size(), 1 + 11 + 27 + 1);
+        Check.due("lines that belong to no part: " + Doc.unread(), Doc.unread().size(), 0);
         for (Map.Entry<String, String> part : Doc.parts().entrySet()) {
             String left = leftOf(part.getValue(), named.getOrDefault(part.getKey(), List.of()));
             left = left.startsWith(part.getKey()) ? left.substring(part.getKey().length()) : left;
@@ -66,7 +65,7 @@ public final class SentencesTest {
 
     private static String leftOf(String part, List<String> named) {
         List<String> longestFirst = new ArrayList<>(named);
-        longestFirst.addAll(List.of(WITHOUT_BOUNDARY));
+        longestFirst.addAll(List.of(ASKING_FOR_NOTHING));
         longestFirst.sort(Comparator.comparingInt(String::length).reversed());
         String left = part;
         for (String words : longestFirst) {

@@ -154,6 +154,16 @@ final class Organs {
         x.tick(9);
     }
 
+    /** That a call left an organ in all as another one is that did not get it; this uses both up. */
+    static void compare(String call, OrganWind x, OrganWind untouched) {
+        List<Long> got = allOf(x);
+        List<Long> want = allOf(untouched);
+        Check.due("values told after " + call, got.size(), want.size());
+        for (int i = 0; i < Math.min(got.size(), want.size()); i++) {
+            Check.due("value " + i + " after " + call, got.get(i), want.get(i));
+        }
+    }
+
     /** All that can be asked of an organ, and what its history, slots and text bring; this uses it up. */
     static List<Long> allOf(OrganWind x) {
         List<Long> all = new ArrayList<>();
